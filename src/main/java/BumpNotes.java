@@ -25,7 +25,7 @@ public final class BumpNotes {
     private static final int WEIGHT_BREAK = 3;
 
     private static final int KINDS = 6;
-    private static final int[] WEIGHT_OF_KIND = {WEIGHT_MINOR, WEIGHT_PATCH, WEIGHT_PATCH, 0, 0, 0};
+    private static final int[] WEIGHT_OF_KIND = {2, 1, 1, 0, 0, 0};
 
     private static final int GROUP_BREAK = 0;
     private static final int GROUP_LOOSE = KINDS + 1;

@@ -96,6 +96,26 @@ public final class ChangesTest {
         for (String text : texts) {
             expect(text, "-1 0 0 0 0");
         }
+        // The grammar breaks off at the 60th character.
+        expect("fix(" + "z".repeat(56), "-1 0 0 0 0");
+        expect("fix(" + "z".repeat(55) + ")", "-1 0 0 0 0");
+        expect("fix(" + "z".repeat(54) + ")!", "-1 0 0 0 0");
+        expect("fix(" + "z".repeat(54) + "):", "-1 0 0 0 0");
+        expect("fix(" + "z".repeat(53) + "): ", "-1 0 0 0 0");
+        afterLongerTexts();
+    }
+
+    /** What a longer text left behind on the tape must not complete a shorter one. */
+    private static void afterLongerTexts() {
+        String[] texts = {"fix(abc)!: BREAKING", "fix: abc", "feat: a"};
+        for (String text : texts) {
+            for (int length = 0; length < text.indexOf(": ") + 2; length++) {
+                BumpNotes x = Checks.withPacks(1);
+                Checks.change(x, 0, text);
+                Checks.change(x, 0, text.substring(0, length));
+                checks.due("cut short: " + text.substring(0, length), Checks.about(x, 1), "-1 1 0 0 0");
+            }
+        }
     }
 
     private static void breakingSubjects() {

@@ -205,6 +205,11 @@ public final class RunsTest {
     }
 
     private static void toldBreaks() {
+        BumpNotes quiet = Checks.withPacks(2);
+        Checks.change(quiet, 1, "fix: a");
+        quiet.run();
+        checks.due("a face of which nothing was said", Checks.told(quiet), "");
+
         BumpNotes x = Checks.withPacks(5);
         x.needs(4, 3, 0);
         for (int pack = 0; pack < 5; pack++) {
