@@ -1,11 +1,16 @@
 /** What the tests share: counting wrong answers, writing texts onto the tape, versions as texts. */
 final class Checks {
     private int wrong = 0;
+    private String sentence = "";
+
+    /** The sentence of the document that the next answers are due by. */
+    void by(String sentence) {
+        this.sentence = "[" + sentence + "] ";
+    }
 
     void due(String call, long got, long want) {
         if (got != want) {
-            wrong++;
-            System.out.println(call + " answered " + got + ", due is " + want);
+            tell(call, String.valueOf(got), String.valueOf(want));
         }
     }
 
@@ -15,9 +20,13 @@ final class Checks {
 
     void due(String call, String got, String want) {
         if (!got.equals(want)) {
-            wrong++;
-            System.out.println(call + " answered " + got + ", due is " + want);
+            tell(call, got, want);
         }
+    }
+
+    private void tell(String call, String got, String want) {
+        wrong++;
+        System.out.println(sentence + call + " answered " + got + ", due is " + want);
     }
 
     void end() {
@@ -89,5 +98,10 @@ final class Checks {
             x.pack(1, 0, 0);
         }
         return x;
+    }
+
+    /** Numbers that nothing bears as long as there are so many, and never more than so many. */
+    static int[] numbersOfNone(int count, int most) {
+        return new int[] {-1, -2, count, most, most + 1, Integer.MIN_VALUE, Integer.MAX_VALUE};
     }
 }
